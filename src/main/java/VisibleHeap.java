@@ -88,7 +88,16 @@ public final class VisibleHeap {
 
     public int put(int s, int t, int u) {
         if (isRegister(t) && isRegister(u) && valueIn(s) instanceof Table table) {
-            return putEntry(table, valueIn(t), valueIn(u));
+            Tie entry = table.entries.withKey(valueIn(t));
+            if (entry != null) {
+                entry.value = valueIn(u);
+                return 1;
+            }
+            if (!findRoom(ENTRY_CELLS)) {
+                return 0;
+            }
+            addEntry(table, new Tie(valueIn(t), valueIn(u)));
+            return 2;
         }
         return -1;
     }
@@ -142,7 +151,7 @@ public final class VisibleHeap {
         Value value = valueIn(s);
         switch (what) {
             case 0:
-                return value == null ? NOTHING : value.kind();
+                return value == null ? NOTHING : value.kind;
             case 1:
                 return numberOf(value);
             case 2:
@@ -234,19 +243,10 @@ public final class VisibleHeap {
         return vector;
     }
 
-    private int putEntry(Table table, Value key, Value value) {
-        Tie entry = table.entries.withKey(key);
-        if (entry != null) {
-            entry.value = value;
-            return 1;
-        }
-        if (!findRoom(ENTRY_CELLS)) {
-            return 0;
-        }
-        table.entries.append(new Tie(key, value));
+    private void addEntry(Table table, Tie entry) {
+        table.entries.append(entry);
         cellsInUse += ENTRY_CELLS;
         objects++;
-        return 2;
     }
 
     private int numberOf(Value value) {
@@ -320,7 +320,9 @@ public final class VisibleHeap {
             reckoning.reach(told.key);
             reckoning.reach(told.value);
         }
-        reckoning.reachByKeys(registrations);
+        for (Tie registration = registrations.first; registration != null; registration = registration.after) {
+            reckoning.reachByKey(registration);
+        }
     }
 
     private void keepLiveOnly() {
@@ -338,7 +340,11 @@ public final class VisibleHeap {
     }
 
     private abstract static class Value {
-        abstract int kind();
+        final int kind;
+
+        Value(int kind) {
+            this.kind = kind;
+        }
 
         abstract int size();
     }
@@ -347,15 +353,10 @@ public final class VisibleHeap {
         final int amount;
 
         Num(int amount) {
+            super(NUMBER);
             this.amount = amount;
         }
 
-        @Override
-        int kind() {
-            return NUMBER;
-        }
-
-        @Override
         int size() {
             return 0;
         }
@@ -369,6 +370,10 @@ public final class VisibleHeap {
         Thing reachedBefore;
         /** Ties whose value becomes live when this thing, their key, does. */
         Tie waiting;
+
+        Thing(int kind) {
+            super(kind);
+        }
 
         abstract int cells();
 
@@ -393,43 +398,33 @@ public final class VisibleHeap {
 
     /** A pair or a vector: both hold all their values and may be set. */
     private static final class Row extends Thing {
-        final int kind;
         final Value[] values;
 
         Row(int kind, int size) {
-            this.kind = kind;
+            super(kind);
             this.values = new Value[Math.max(0, size)];
         }
 
-        @Override
-        int kind() {
-            return kind;
-        }
-
-        @Override
         int size() {
             return values.length;
         }
 
-        @Override
         int cells() {
             return kind == PAIR ? PAIR_CELLS : VECTOR_CELLS + values.length;
         }
 
-        @Override
         Value valueAt(int k) {
             return hasValue(k) ? values[k] : null;
         }
 
-        @Override
         void reachHeld(Reckoning reckoning) {
             for (int k = 0; k < values.length; k++) {
                 reckoning.reach(values[k]);
             }
         }
 
-        @Override
         void letGoOfDead() {
+            // A row holds whatever it has: if that is dead, the row is dead as well.
         }
     }
 
@@ -437,34 +432,26 @@ public final class VisibleHeap {
         Value value;
 
         Weak(Value value) {
+            super(WEAK);
             this.value = value;
         }
 
-        @Override
-        int kind() {
-            return WEAK;
-        }
-
-        @Override
         int size() {
             return 1;
         }
 
-        @Override
         int cells() {
             return WEAK_CELLS;
         }
 
-        @Override
         Value valueAt(int k) {
             return value;
         }
 
-        @Override
         void reachHeld(Reckoning reckoning) {
+            // To hold nothing is what makes it weak.
         }
 
-        @Override
         void letGoOfDead() {
             if (!isLive(value)) {
                 value = null;
@@ -476,35 +463,26 @@ public final class VisibleHeap {
         final Tie tie;
 
         Ephemeron(Value key, Value value) {
+            super(EPHEMERON);
             this.tie = new Tie(key, value);
         }
 
-        @Override
-        int kind() {
-            return EPHEMERON;
-        }
-
-        @Override
         int size() {
             return 2;
         }
 
-        @Override
         int cells() {
             return EPHEMERON_CELLS;
         }
 
-        @Override
         Value valueAt(int k) {
             return k == 0 ? tie.key : tie.value;
         }
 
-        @Override
         void reachHeld(Reckoning reckoning) {
             reckoning.reachByKey(tie);
         }
 
-        @Override
         void letGoOfDead() {
             if (!isLive(tie.key)) {
                 tie.key = null;
@@ -516,43 +494,37 @@ public final class VisibleHeap {
     private static final class Table extends Thing {
         final TieList entries = new TieList();
 
-        @Override
-        int kind() {
-            return TABLE;
+        Table() {
+            super(TABLE);
         }
 
-        @Override
         int size() {
             return entries.size;
         }
 
-        @Override
         int cells() {
             return TABLE_CELLS + ENTRY_CELLS * entries.size;
         }
 
-        @Override
         int objects() {
             return 1 + entries.size;
         }
 
         /** Entries are asked for by key alone. */
-        @Override
         boolean hasValue(int k) {
             return false;
         }
 
-        @Override
         Value valueAt(int k) {
             return null;
         }
 
-        @Override
         void reachHeld(Reckoning reckoning) {
-            reckoning.reachByKeys(entries);
+            for (Tie entry = entries.first; entry != null; entry = entry.after) {
+                reckoning.reachByKey(entry);
+            }
         }
 
-        @Override
         void letGoOfDead() {
             entries.moveDeadTo(null);
         }
@@ -646,12 +618,6 @@ public final class VisibleHeap {
                 key.waiting = tie;
             } else {
                 reach(tie.value);
-            }
-        }
-
-        void reachByKeys(TieList ties) {
-            for (Tie tie = ties.first; tie != null; tie = tie.after) {
-                reachByKey(tie);
             }
         }
 

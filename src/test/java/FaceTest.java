@@ -20,7 +20,7 @@ public final class FaceTest {
     };
     private static final String[] RULED_OUT = {
         "throw", "throws", "try", "catch", "synchronized", "assert", "import", "package", "var", "System", "Exact",
-        "->", "::", "hashCode", "toString", "equals",
+        "->", "::", "@", "hashCode", "toString", "equals",
     };
 
     public static void main(String[] args) throws IOException {
